@@ -225,11 +225,13 @@ public final class HolonomicRows {
     }
 
     private static int reduce(long v) {
-        return (int) Math.floorMod(v, (long) MODULUS);
+        int rest = (int) (v % MODULUS);
+        return rest < 0 ? rest + MODULUS : rest;
     }
 
+    /** Of a and b that aren't below 0. */
     private static int product(int a, int b) {
-        return reduce((long) a * b);
+        return (int) ((long) a * b % MODULUS);
     }
 
     /** By Fermat: the modulus is a prime, and a is not 0. */

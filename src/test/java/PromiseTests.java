@@ -392,6 +392,12 @@ public final class PromiseTests {
         due("15: j above", () -> x.rule(0, 0, 1), 0);
         due("15: j below", () -> x.rule(0, 1, -1), 0);
         due("15: far off", () -> x.rule(0, Integer.MAX_VALUE, Integer.MIN_VALUE), 0);
+        due("15: i far above", () -> x.rule(0, 1 << 30, 0), 0);
+        due("15: j far above", () -> x.rule(0, 0, Integer.MAX_VALUE), 0);
+        int zero = x.function(1);
+        x.guess(zero, 0, 3);
+        due("15: i times 4 is 0 in an int", () -> x.rule(3, 1 << 30, 0), 0);
+        x.guess(f, 1, 0);
         x.factor(f, 0, 0, -3);
         due("15: as it was found", () -> x.rule(0, 0, 0), 32001);
         due("15: least", () -> x.least(f, 1), 1);
