@@ -83,7 +83,7 @@ public final class FaceTests {
 
     private static void namesAreApart(Class<?> c) {
         for (Method m : c.getDeclaredMethods()) {
-            if (!Modifier.isPublic(m.getModifiers())) {
+            if (Modifier.isPrivate(m.getModifiers()) && !m.isSynthetic()) {
                 due(m.getName() + " bears a public name", publicNames().contains(m.getName()), false);
             }
         }
@@ -99,11 +99,12 @@ public final class FaceTests {
             due("its parameters", made.getParameterCount(), 0);
         }
         for (Field f : c.getDeclaredFields()) {
-            due(f.getName() + " is private", Modifier.isPrivate(f.getModifiers()), true);
+            due(f.getName() + " is private", Modifier.isPrivate(f.getModifiers()) || f.isSynthetic(), true);
         }
         namesAreApart(c);
         for (Class<?> inside : c.getDeclaredClasses()) {
-            due(inside.getName() + " is static", Modifier.isStatic(inside.getModifiers()), true);
+            int seen = inside.getModifiers() & (Modifier.PUBLIC | Modifier.PROTECTED);
+            due(inside.getName() + " is private or package-visible", seen, 0);
             namesAreApart(inside);
         }
         System.out.println(wrong == 0 ? "the face is as due" : wrong + " things are not as due");

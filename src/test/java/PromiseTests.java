@@ -120,6 +120,9 @@ public final class PromiseTests {
         due("3: the same number", () -> x.factor(f, 1, 1, Long.MAX_VALUE % MODULUS), false);
         due("3: the lowest long", () -> x.factor(f, 2, 2, Long.MIN_VALUE), true);
         due("3: the same number", () -> x.factor(f, 2, 2, Long.MIN_VALUE + 32003L * 7), false);
+        due("3: back to 0", () -> x.factor(f, 2, 2, 0), true);
+        due("3: 0 again", () -> x.factor(f, 2, 2, 0), false);
+        due("3: the others are as they were", () -> x.factor(f, 1, 1, Long.MAX_VALUE), false);
         due("3: no factor 3", () -> x.factor(f, 3, 0, 1), NO_ARGUMENT);
         due("3: no factor -1", () -> x.factor(f, -1, 0, 1), NO_ARGUMENT);
         due("3: no power 3", () -> x.factor(f, 0, 3, 1), NO_ARGUMENT);
@@ -157,6 +160,8 @@ public final class PromiseTests {
         due("4: read at 63", () -> x.value(f, 63), 32001);
         due("4: the lowest long", () -> x.start(f, 5, Long.MIN_VALUE), true);
         due("4: read it", () -> x.value(f, 5), Math.floorMod(Long.MIN_VALUE, 32003L));
+        due("4: back to 0", () -> x.start(f, 5, 0), true);
+        due("4: 0 again", () -> x.start(f, 5, 0), false);
         due("4: no place 64", () -> x.start(f, 64, 1), NO_INDEX);
         due("4: no place -1", () -> x.start(f, -1, 1), NO_INDEX);
         due("4: no sequence", () -> x.start(2, 0, 1), NO_INDEX);
@@ -410,6 +415,113 @@ public final class PromiseTests {
         due("15: no member 0", () -> x.rule(0, 0, 0), NO_INDEX);
     }
 
+    /** A table's neighbour in memory, (1, 0) behind (0, d), is not what is asked for. */
+    private static void promise15Neighbours() {
+        HolonomicRows x = new HolonomicRows();
+        int zero = x.function(1);
+        due("15: all of order 4, degree 3", () -> x.guess(zero, 4, 3), 20);
+        due("15: the first begins at (4, 3)", () -> x.rule(0, 4, 3), 1);
+        due("15: the last begins at (0, 0)", () -> x.rule(19, 0, 0), 1);
+        due("15: no member 20", () -> x.rule(20, 0, 0), NO_INDEX);
+        due("15: i is 5", () -> x.rule(0, 5, 3), 0);
+        due("15: i is 5, j is -1", () -> x.rule(0, 5, -1), 0);
+        due("15: j is 4", () -> x.rule(0, 4, 4), 0);
+        due("15: i is -1", () -> x.rule(19, -1, 0), 0);
+        due("15: i is -1, j is 4", () -> x.rule(19, -1, 4), 0);
+        due("15: (1, 0) begins member 15", () -> x.rule(15, 1, 0), 1);
+        due("15: (0, 4) isn't (1, 0)", () -> x.rule(15, 0, 4), 0);
+        due("15: (2, -4) isn't (1, 0)", () -> x.rule(15, 2, -4), 0);
+        due("15: (1, 3) begins member 12", () -> x.rule(12, 1, 3), 1);
+        due("15: (2, -1) isn't (1, 3)", () -> x.rule(12, 2, -1), 0);
+        due("15: (0, 7) isn't (1, 3)", () -> x.rule(12, 0, 7), 0);
+    }
+
+    private static void promise15FoundLatest() {
+        HolonomicRows x = new HolonomicRows();
+        int zero = x.function(1);
+        int f = powers(x, 3);
+        x.guess(zero, 4, 3);
+        due("15: a smaller base", () -> x.guess(f, 2, 0), 2);
+        dueRule("15: a smaller base", x, 0, 0, -9, 0, 1);
+        dueRule("15: a smaller base", x, 1, 0, -3, 1, 0);
+        due("15: member 2 is gone", () -> x.rule(2, 0, 0), NO_INDEX);
+        due("15: i 4 is gone", () -> x.rule(0, 4, 0), 0);
+        due("15: j 3 is gone", () -> x.rule(0, 2, 3), 0);
+        due("15: another sequence's", () -> x.guess(zero, 0, 0), 1);
+        due("15: it is read", () -> x.rule(0, 0, 0), 1);
+        due("15: member 1 is gone", () -> x.rule(1, 0, 0), NO_INDEX);
+        due("15: none", () -> x.guess(f, 0, 3), 0);
+        due("15: member 0 is gone", () -> x.rule(0, 0, 0), NO_INDEX);
+        due("15: a larger one again", () -> x.guess(zero, 1, 1), 4);
+        due("15: its last member", () -> x.rule(3, 0, 0), 1);
+    }
+
+    /** What an earlier base left behind doesn't show in a later one. */
+    private static void promise15NothingLeft() {
+        HolonomicRows x = new HolonomicRows();
+        int f = x.function(1);
+        for (int n = 0; n < 64; n++) {
+            x.start(f, n, 1 + n * n * (n + 3) % 101);
+        }
+        int zero = x.function(1);
+        x.guess(f, 4, 3);
+        x.guess(zero, 3, 3);
+        for (int k = 0; k < 16; k++) {
+            long[] unit = new long[16];
+            unit[15 - k] = 1;
+            dueRule("15: zeros behind another", x, k, 3, unit);
+        }
+    }
+
+    private static int sumOfPowers(HolonomicRows x, int how) {
+        int f = x.function(1);
+        for (int base = 2; base < 2 + how; base++) {
+            f = x.add(f, powers(x, base));
+        }
+        return f;
+    }
+
+    /** The numbers n to the e. */
+    private static int places(HolonomicRows x, int e) {
+        int f = x.function(1);
+        for (int n = 0; n < 64; n++) {
+            long v = 1;
+            for (int i = 0; i < e; i++) {
+                v *= n;
+            }
+            x.start(f, n, v);
+        }
+        return f;
+    }
+
+    private static void promise16Edges() {
+        for (int d = 0; d <= 3; d++) {
+            HolonomicRows x = new HolonomicRows();
+            int degree = d;
+            for (int m = 0; m <= 5; m++) {
+                int f = sumOfPowers(x, m);
+                due("16: " + m + " powers, degree " + d, () -> x.least(f, degree), m == 5 ? -1 : m);
+            }
+        }
+        HolonomicRows x = new HolonomicRows();
+        int n1 = places(x, 1);
+        int n2 = places(x, 2);
+        int n3 = places(x, 3);
+        int n4 = places(x, 4);
+        due("16: n, degree 0", () -> x.least(n1, 0), 2);
+        due("16: n, degree 1", () -> x.least(n1, 1), 1);
+        due("16: n n, degree 0", () -> x.least(n2, 0), 3);
+        due("16: n n, degree 2", () -> x.least(n2, 2), 1);
+        due("16: n n n, degree 0", () -> x.least(n3, 0), 4);
+        due("16: n n n, degree 3", () -> x.least(n3, 3), 1);
+        due("16: n n n n, degree 0", () -> x.least(n4, 0), -1);
+        int few = listed(x, 5, 6, 7);
+        due("16: three numbers, degree 3", () -> x.least(few, 3), 0);
+        due("16: three numbers, degree 2", () -> x.least(few, 2), 1);
+        x.start(few, 3, 8);
+        due("16: four numbers, degree 3", () -> x.least(few, 3), 1);
+    }
+
     private static void promise16Least() {
         HolonomicRows x = new HolonomicRows();
         int f = powers(x, 2);
@@ -451,6 +563,13 @@ public final class PromiseTests {
         due("17: zeros", () -> x.differ(a, b), -1);
         x.start(b, 63, 1);
         due("17: the last place", () -> x.differ(a, b), 63);
+        x.start(a, 5, 1);
+        due("17: the first of two places", () -> x.differ(a, b), 5);
+        due("17: from the other side", () -> x.differ(b, a), 5);
+        x.start(b, 5, 32004);
+        due("17: the same again there", () -> x.differ(a, b), 63);
+        x.start(a, 63, -32002);
+        due("17: the same everywhere", () -> x.differ(a, b), -1);
         due("17: no f", () -> x.differ(-1, 0), NO_INDEX);
         due("17: no g", () -> x.differ(0, 4), NO_INDEX);
     }
@@ -465,6 +584,8 @@ public final class PromiseTests {
         int both = x.weave(h, far);
         due("18: itself", () -> x.hangs(f, f), true);
         due("18: another", () -> x.hangs(f, g), false);
+        due("18: another, the later of the first", () -> x.hangs(g, f), false);
+        due("18: another, the later of the second", () -> x.hangs(h, g), false);
         due("18: made of f", () -> x.hangs(sum, f), true);
         due("18: made of g", () -> x.hangs(sum, g), true);
         due("18: not of h", () -> x.hangs(sum, h), false);
@@ -482,6 +603,30 @@ public final class PromiseTests {
         due("18: the last one", () -> x.hangs(39, 0), true);
         due("18: the last one itself", () -> x.hangs(39, 39), true);
         due("18: not of the last one", () -> x.hangs(38, 39), false);
+    }
+
+    private static void promise18Kinds() {
+        HolonomicRows x = new HolonomicRows();
+        int f = x.function(1);
+        int g = x.function(1);
+        int h = x.function(1);
+        int[] pairs = {x.add(f, g), x.times(f, g), x.convolve(f, g), x.weave(f, g)};
+        int[] singles = {x.shift(f, 0), x.sums(f), x.derive(f)};
+        for (int made : pairs) {
+            due("18: " + made + " is made of f", () -> x.hangs(made, f), true);
+            due("18: " + made + " is made of g", () -> x.hangs(made, g), true);
+            due("18: " + made + " isn't made of h", () -> x.hangs(made, h), false);
+            due("18: f isn't made of " + made, () -> x.hangs(f, made), false);
+            due("18: " + made + " is itself", () -> x.hangs(made, made), true);
+        }
+        for (int made : singles) {
+            due("18: " + made + " is made of f", () -> x.hangs(made, f), true);
+            due("18: " + made + " isn't made of g", () -> x.hangs(made, g), false);
+            due("18: f isn't made of " + made, () -> x.hangs(f, made), false);
+            due("18: " + made + " is itself", () -> x.hangs(made, made), true);
+        }
+        due("18: the same numbers are not enough", () -> x.hangs(pairs[0], pairs[1]), false);
+        due("18: a part in common is not enough", () -> x.hangs(singles[0], singles[1]), false);
     }
 
     private static void promise19Count() {
@@ -503,6 +648,8 @@ public final class PromiseTests {
         due("19: questions make none", x::count, 8);
         fill(x);
         due("19: all", x::count, 40);
+        due("19: one more is refused", () -> x.function(1), NO_STATE);
+        due("19: still all", x::count, 40);
     }
 
     public static void main(String[] args) {
@@ -523,9 +670,14 @@ public final class PromiseTests {
         promise14Guess();
         promise14LastPlaces();
         promise15Rule();
+        promise15Neighbours();
+        promise15FoundLatest();
+        promise15NothingLeft();
         promise16Least();
+        promise16Edges();
         promise17Differ();
         promise18Hangs();
+        promise18Kinds();
         promise19Count();
         System.out.println(wrong == 0 ? "all answers are as due" : wrong + " answers are not as due");
         if (wrong != 0) {
