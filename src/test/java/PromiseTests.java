@@ -459,16 +459,13 @@ public final class PromiseTests {
     /** What an earlier base left behind doesn't show in a later one. */
     private static void promise15NothingLeft() {
         HolonomicRows x = new HolonomicRows();
-        int f = x.function(1);
-        for (int n = 0; n < 64; n++) {
-            x.start(f, n, 1 + n * n * (n + 3) % 101);
-        }
+        int f = fibonacci(x);
         int zero = x.function(1);
         x.guess(f, 4, 3);
-        x.guess(zero, 3, 3);
-        for (int k = 0; k < 16; k++) {
-            long[] unit = new long[16];
-            unit[15 - k] = 1;
+        x.guess(zero, 4, 3);
+        for (int k = 0; k < 20; k++) {
+            long[] unit = new long[20];
+            unit[19 - k] = 1;
             dueRule("15: zeros behind another", x, k, 3, unit);
         }
     }
