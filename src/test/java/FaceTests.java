@@ -6,7 +6,7 @@ import java.util.Arrays;
 import java.util.Set;
 import java.util.TreeSet;
 
-/** The class shows the document's face and nothing else. */
+/** The class shows the document's face and nothing else, and keeps no static state. */
 public final class FaceTests {
     private static final String INDEX = "IndexOutOfBoundsException";
     private static final String STATE = "IllegalStateException";
@@ -89,6 +89,14 @@ public final class FaceTests {
         }
     }
 
+    private static void noStaticState(Class<?> c) {
+        for (Field f : c.getDeclaredFields()) {
+            if (Modifier.isStatic(f.getModifiers()) && !f.isSynthetic()) {
+                due(c.getName() + "." + f.getName() + " is final", Modifier.isFinal(f.getModifiers()), true);
+            }
+        }
+    }
+
     public static void main(String[] args) {
         Class<?> c = HolonomicRows.class;
         due("class", c.getModifiers(), Modifier.PUBLIC | Modifier.FINAL);
@@ -102,10 +110,12 @@ public final class FaceTests {
             due(f.getName() + " is private", Modifier.isPrivate(f.getModifiers()) || f.isSynthetic(), true);
         }
         namesAreApart(c);
+        noStaticState(c);
         for (Class<?> inside : c.getDeclaredClasses()) {
             int seen = inside.getModifiers() & (Modifier.PUBLIC | Modifier.PROTECTED);
             due(inside.getName() + " is private or package-visible", seen, 0);
             namesAreApart(inside);
+            noStaticState(inside);
         }
         System.out.println(wrong == 0 ? "the face is as due" : wrong + " things are not as due");
         if (wrong != 0) {

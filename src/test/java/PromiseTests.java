@@ -649,8 +649,46 @@ public final class PromiseTests {
         due("19: still all", x::count, 40);
     }
 
+    /** What README.md shows is what the class answers. */
+    private static void readmeExample() {
+        HolonomicRows x = new HolonomicRows();
+        int f = x.function(2);
+        x.factor(f, 0, 0, 1);
+        x.factor(f, 1, 0, 1);
+        x.factor(f, 2, 0, -1);
+        x.start(f, 1, 1);
+        due("README: value", () -> x.value(f, 10), 55);
+        int s = x.sums(f);
+        due("README: least", () -> x.least(s, 0), 3);
+        due("README: guess", () -> x.guess(s, 3, 0), 1);
+        due("README: rule", () -> x.rule(0, 3, 0), 1);
+    }
+
+    /** What one object is asked doesn't show in another that is used between. */
+    private static void promise1TwoObjects() {
+        HolonomicRows x = new HolonomicRows();
+        HolonomicRows y = new HolonomicRows();
+        int f = powers(x, 2);
+        int g = powers(y, 3);
+        due("1: the same number in both", () -> f == g, true);
+        x.guess(f, 1, 0);
+        due("1: nothing found in the other", () -> y.rule(0, 0, 0), NO_INDEX);
+        y.guess(g, 2, 0);
+        dueRule("1: the one's base", x, 0, 0, -2, 1);
+        dueRule("1: the other's base", y, 0, 0, -9, 0, 1);
+        due("1: the one has no member 1", () -> x.rule(1, 0, 0), NO_INDEX);
+        due("1: the other has", () -> y.rule(1, 0, 0), 32000);
+        dueNumbers("1: the one's numbers", x, f, 1, 2, 4, 8);
+        dueNumbers("1: the other's numbers", y, g, 1, 3, 9, 27);
+        x.sums(f);
+        due("1: made in the one alone", y::count, 1);
+        due("1: made there", x::count, 2);
+    }
+
     public static void main(String[] args) {
+        readmeExample();
         promise1NewObject();
+        promise1TwoObjects();
         promise2Function();
         promise3Factor();
         promise3Powers();
